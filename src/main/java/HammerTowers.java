@@ -1248,7 +1248,7 @@ public final class HammerTowers {
             if (it.heardStrokes > 0) {
                 log.add(now, it);
             }
-            if (done > 0 && it.due == 0 && it == quarterTrain && it.lifts) {
+            if (it.due == 0 && it == quarterTrain && it.lifts) {
                 liftHour();
             }
             return done;

@@ -98,6 +98,9 @@ public final class FaultsTest {
         fault("alike with one: the least sort", x, 1, 1, 0, 7, 2, 1, 2, 10);
         fault("what fits most, not all", x, 1, 1, 1, 1, 1, 1, 3, 4, 5, 6, 7, 24, 9);
         fault("25 and more fits nothing", x, 1, 0, 1, NONE, NONE, 25);
+        int[] far = new int[48];
+        java.util.Arrays.fill(far, 25);
+        fault("as many misfits as there can be", x, 1, 0, 48, NONE, NONE, far);
     }
 
     private static void fault(String what, HammerTowers x, int hour, int sort, int misfits, int a, int b, int... row) {

@@ -77,6 +77,10 @@ public final class LastingTest {
         c.is("lasting(0): from SUM as it is", x.lasting(0), 1);
         x.pass(1);
         c.is("lasting(0): it is 0", x.lasting(0), 0);
+        x.windGoing(0, 1);
+        x.rate(0, -1);
+        x.hands(0, 0);
+        c.is("lasting(0): SUM from before is in it", x.lasting(0), 1);
         x.windGoing(0, 7);
         x.go(0, false);
         c.is("lasting(0), STOPPED", x.lasting(0), NONE);
@@ -85,6 +89,10 @@ public final class LastingTest {
         c.finds(x, "lasting(1)", Checks.NOTHING, () -> x.lasting(1));
         c.refused(x, "lasting(4)", BAD, () -> x.lasting(4));
         c.refused(x, "lasting(-1)", BAD, () -> x.lasting(-1));
+        HammerTowers z = Made.withTower();
+        z.rate(0, -1);
+        z.windGoing(0, 1);
+        c.is("lasting(0): a second is missing", z.lasting(0), 2);
         HammerTowers y = Made.withTower();
         y.rate(0, 3600);
         y.windGoing(0, 24);

@@ -211,6 +211,10 @@ public final class TrainsTest {
         Made.barrel(x, new int[] {2, 1}, 1, 2, 4);
         c.is("mark(1, 1)", x.mark(1, 1), 15);
         c.is("mark(2, 2)", x.mark(2, 2), 9);
+        x.cut(2, 0, 10);
+        c.is("mark(2, 2), the first", x.mark(2, 2), 10);
+        x.cut(2, 2, 11);
+        c.is("mark(2, 2), the last", x.mark(2, 2), 11);
         c.is("mark(3, 1): a BARREL is a PLATE", x.mark(3, 1), 3);
         c.is("mark(3, 3)", x.mark(3, 3), 0);
         x.hang(0, 3, false);
