@@ -70,7 +70,7 @@ public final class HammerTowers {
             return found(BEYOND);
         }
         int was = row.at(i);
-        row.put(i, v);
+        row.set(i, v);
         return was + 1000;
     }
 
@@ -902,7 +902,7 @@ public final class HammerTowers {
             return i >= 0 && i < size && i < bytes.length ? bytes[i] : 0;
         }
 
-        void put(int i, int v) {
+        void set(int i, int v) {
             if (i >= 0 && i < bytes.length) {
                 bytes[i] = (byte) v;
             }

@@ -37,7 +37,6 @@ public final class FaultsTest {
     }
 
     private static void promise41DueRefused() {
-        HammerTowers x = new HammerTowers();
         int[][] bad = {
             {0, 0, 0, 0, 0}, {13, 0, 0, 0, 0}, {1, -1, 0, 0, 0}, {1, 48, 0, 0, 0}, {1, 0, -1, 0, 0}, {1, 0, 5, 0, 0},
             {1, 0, 1, 0, 0}, {1, 0, 1, 12, 0}, {1, 0, 1, 1, -1}, {1, 0, 1, 1, 48},
@@ -45,11 +44,13 @@ public final class FaultsTest {
             {1, 0, 3, 0, 0}, {1, 0, 3, 12, 0},
             {1, 0, 4, -1, 0}, {1, 0, 4, 0, 48}, {1, 0, 4, 2, 1}, {1, 0, 4, 48, 48}};
         for (int[] b : bad) {
+            HammerTowers x = new HammerTowers();
             c.refused(x, "due(" + java.util.Arrays.toString(b) + ")", BAD, () -> x.due(b[0], b[1], b[2], b[3], b[4]));
         }
         int[][] good = {
             {1, 0, 1, 1, 0, 2}, {1, 0, 1, 11, 47, 1}, {1, 0, 2, 1, 0, 0}, {1, 47, 2, 12, 24, 24}, {1, 0, 3, 1, 0, 0},
             {12, 0, 3, 11, 99, 1}, {1, 0, 4, 0, 0, 0}, {1, 47, 4, 47, 47, 0}, {1, 47, 0, -1, -1, 12}};
+        HammerTowers x = new HammerTowers();
         for (int[] g : good) {
             c.is("due(" + java.util.Arrays.toString(g) + ")", x.due(g[0], g[1], g[2], g[3], g[4]), g[5]);
         }
