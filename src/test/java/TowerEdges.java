@@ -9,6 +9,7 @@ final class TowerEdges {
         hang(e);
         unhang(e);
         hands(e);
+        sumStays(e);
         forward(e);
         warned(e);
         letOffBySteps(e);
@@ -229,6 +230,50 @@ final class TowerEdges {
                 tells(0, 2) = 20000
                 """.replaceAll("\\bm\\b", "" + minute));
         }
+    }
+
+    /** What moves or stops the HANDS leaves SUM, RATE and GOING WEIGHT. */
+    private static void sumStays(Edges e) {
+        String sum = """
+            tower(0)
+            rate(0, 700)
+            pass(2) = 2
+            tells(0, ?) = 2 1400 19998 1
+            """;
+        e.promise(22, "HANDS are put to a minute of the day, and nothing else: where they were.", sum + """
+            hands(0, 1439) = 2
+            tells(0, ?) = 1439 1400 19998 1
+            rate(0, 0) = 700
+            """);
+        e.promise(23, "(no time goes by, no TRAIN RUNS): where they are.", sum + """
+            forward(0, 1500) = 62
+            tells(0, ?) = 62 1400 19998 1
+            rate(0, 0) = 700
+            """);
+        e.promise(24, "nothing else comes of it", sum + """
+            back(0, 3) = 1439
+            tells(0, ?) = 1439 1400 19998 1
+            rate(0, 0) = 700
+            """);
+        e.promise(25, "RATE of a TOWER: what it was.", sum + """
+            rate(0, -700) = 700
+            tells(0, ?) = 2 1400 19998 1
+            pass(2) = 4
+            tells(0, ?) = 4 0 19996 1
+            """);
+        e.promise(26, "A TOWER GOES, or is STOPPED: 1 if it went.", sum + """
+            go(0, false) = 1
+            pass(5) = 7
+            tells(0, ?) = 2 1400 19998 0
+            go(0, true) = 0
+            tells(0, ?) = 2 1400 19998 1
+            rate(0, 0) = 700
+            """);
+        e.promise(27, "The GOING WEIGHT's FALL is n; it is WOUND: what it had been.", sum + """
+            windGoing(0, 5) = 19998
+            tells(0, ?) = 2 1400 5 1
+            rate(0, 0) = 700
+            """);
     }
 
     private static void forward(Edges e) {

@@ -372,6 +372,19 @@ final class TrainEdges {
             broken(0, -1) = BAD
             broken(0, 0) = 255
             """);
+        e.promise(12, "A TRAIN's hammers that are BROKEN: what they were.", EACH_KIND + """
+            broken(1, 1) = 0
+            gear(1, 5, 50) = 1000
+            wind(1) = 0
+            hang(0, 1, false)
+            cut(1, 0, 3) = 2
+            put(1, 2) = 0
+            letOff(0, false) = 4
+            runOut(0, false) = 4
+            unhang(0, false) = 1
+            broken(1, 0) = 1
+            broken(?, 0) = 0 0 0 0
+            """);
         for (int train = 0; train < 3; train++) {
             e.promise(12, "bit 0 is the one of all that are no BARRELS", EACH_KIND + """
                 hang(0, n, false)

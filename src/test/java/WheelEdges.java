@@ -6,6 +6,7 @@ final class WheelEdges {
     static void all(Edges e) {
         wheel(e);
         nearest(e);
+        nearestOfTwelve(e);
         nearestOfAlike(e);
         nearestRefused(e);
         chosen(e);
@@ -96,6 +97,32 @@ final class WheelEdges {
             nearest(10000, 9999, 1) = 1
             upper() = 200
             lower() = 199
+            """);
+    }
+
+    private static void nearestOfTwelve(Edges e) {
+        e.promise(48, "WHEELS: teeth, 0, 1, .. (12 at most", """
+            wheel(200) = 0
+            wheel(7) = 1
+            8 * wheel(50)
+            wheel(199) = 10
+            wheel(6) = 11
+            nearest(10000, 1, 1) = 1
+            upper() = 100
+            lower() = 3
+            chosen(?) = 0 11 NONE
+            nearest(1, 10000, 1) = 1
+            upper() = 3
+            lower() = 100
+            chosen(?) = 11 0 NONE
+            nearest(10000, 1, 2) = 1
+            upper() = 19900
+            lower() = 21
+            chosen(?) = 0 1 10 11 NONE
+            nearest(1, 10000, 2) = 1
+            upper() = 21
+            lower() = 19900
+            chosen(?) = 1 0 11 10 NONE
             """);
     }
 
